@@ -15,7 +15,7 @@ public final class ValueMachine {
     private static final int STOPPED = 2;
 
     private final Code program = new Code();
-    private final Stack stack = new Stack();
+    private final ValueStack stack = new ValueStack();
     private final Notes notes = new Notes();
     private final Store store = new Store();
     private final long[] globals = new long[GLOBALS];
@@ -595,7 +595,7 @@ public final class ValueMachine {
         }
     }
 
-    private static final class Stack {
+    private static final class ValueStack {
         static final int MOST = 120;
 
         private final long[] values = new long[MOST];

@@ -17,6 +17,11 @@ public final class RoomTest {
         wrongArraysDoNotSweep();
         noRoomIsTrapped();
         newFieldsAreNull();
+        thingsAreApartAfterReset();
+        thingsAreApartAfterSweeps();
+        longArrayBesideAnother();
+        arrayFromAFullStack();
+        whatWentHoldsNothing();
         swept512();
         Check.end();
     }
@@ -255,6 +260,110 @@ public final class RoomTest {
         dueCounts("made again after a sweep", machine, 1, 31, 1);
         machine.look(0, 0);
         Check.due("a new object after a sweep", machine.into(0), 0);
+    }
+
+    /** Pushes objects until there is no room, and sets field 0 of each to 0, 1, 2, .. */
+    private static void fillWithNumbered(ValueMachine machine) {
+        int start = machine.count(0) + 2;
+        Programs.add(machine, Programs.INTEGER, 0, Programs.SET_GLOBAL, 0,
+            Programs.OBJECT, 0, Programs.PUSH, 0, Programs.PUSH, 0, Programs.GLOBAL, 0, Programs.SET_FIELD, 0,
+            Programs.PUSH, 0, Programs.INTEGER, 1, Programs.ADD, 0, Programs.SET_GLOBAL, 0, Programs.GO, start);
+        machine.run(20000);
+    }
+
+    private static void dueNumbered(String what, ValueMachine machine, int many) {
+        Check.due(what + ": things", machine.count(4), 30);
+        Check.due(what + ": on the stack", machine.count(2), many);
+        Programs.dueAt(what + ": what stopped it", machine, 3, 0, 3, 6);
+        for (int k = 0; k < many; k++) {
+            Check.due(what + ": S" + k, machine.look(1, k), 4);
+            Check.due(what + ": S" + k, machine.into(0), 3);
+            Check.due(what + ": S" + k, machine.value(), many - 1 - k);
+        }
+    }
+
+    private static void thingsAreApartAfterReset() {
+        ValueMachine machine = new ValueMachine();
+        fillWithNumbered(machine);
+        dueNumbered("at first", machine, 30);
+        machine.reset();
+        machine.run(20000);
+        dueNumbered("after a reset", machine, 30);
+        machine.clear();
+        fillWithNumbered(machine);
+        dueNumbered("after a clear", machine, 30);
+    }
+
+    /** Every seventh object is kept in a global, the others go; then the globals change and the room is filled. */
+    private static void thingsAreApartAfterSweeps() {
+        for (int first = 0; first < 7; first++) {
+            ValueMachine machine = new ValueMachine();
+            for (int k = 0; k < 30; k++) {
+                Programs.add(machine, Programs.OBJECT, 0);
+                if (k % 7 == first) {
+                    Programs.add(machine, Programs.SET_GLOBAL, 1 + k / 7);
+                }
+            }
+            Programs.add(machine, Programs.NULL, 0, Programs.OBJECT, 0);
+            for (int k = 1; k <= 5; k++) {
+                Programs.add(machine, Programs.SET_GLOBAL, k);
+            }
+            for (int k = 0; k < 30; k++) {
+                Programs.add(machine, Programs.OBJECT, 0);
+            }
+            machine.run(20000);
+            Check.due("a second sweep", machine.count(6), 2);
+            fillWithNumbered(machine);
+            dueNumbered("after sweeps, first " + first, machine, 29);
+            Check.due("the kept one", machine.look(2, 1), 4);
+            Check.due("the kept one: field 0", machine.into(0), 0);
+        }
+    }
+
+    private static void longArrayBesideAnother() {
+        ValueMachine machine = new ValueMachine();
+        Programs.add(machine, Programs.INTEGER, 1);
+        for (int k = 0; k < 20; k++) {
+            Programs.add(machine, Programs.PUSH, 0);
+        }
+        Programs.add(machine,
+            Programs.OBJECT, 0, Programs.OBJECT, 0, Programs.SET_GLOBAL, 0, Programs.PUSH, 0,
+            Programs.INTEGER, 77, Programs.SET_FIELD, 0, Programs.NULL, 0);
+        machine.run(20000);
+        makeMore(machine, 28);
+        Programs.add(machine, Programs.INTEGER, 2, Programs.ARRAY, 20);
+        machine.run(20000);
+        dueCounts("a long array", machine, 2, 31, 1);
+        machine.look(2, 0);
+        machine.into(0);
+        Check.due("the object beside a long array", machine.value(), 77);
+    }
+
+    private static void arrayFromAFullStack() {
+        ValueMachine machine = new ValueMachine();
+        for (int k = 0; k < 120; k++) {
+            Programs.add(machine, Programs.PUSH, 0);
+        }
+        Programs.add(machine, Programs.ARRAY, 20);
+        machine.run(20000);
+        Programs.dueResult("an array from a full stack", machine, 5, 20);
+        Check.due("an array from a full stack: the rest", machine.count(2), 100);
+    }
+
+    /** An object goes that held another one in field 2; arrays of two that come in its place do not hold it. */
+    private static void whatWentHoldsNothing() {
+        ValueMachine machine = Programs.ran(
+            Programs.OBJECT, 0, Programs.SET_GLOBAL, 0, Programs.OBJECT, 0, Programs.PUSH, 0,
+            Programs.GLOBAL, 0, Programs.SET_FIELD, 2);
+        makeMore(machine, 28);
+        int loop = machine.count(0) + 1;
+        Programs.add(machine, Programs.TRAP, loop + 7,
+            Programs.GLOBAL, 1, Programs.PUSH, 0, Programs.NULL, 0, Programs.PUSH, 0, Programs.ARRAY, 2,
+            Programs.SET_GLOBAL, 1, Programs.GO, loop,
+            Programs.NULL, 0, Programs.SET_GLOBAL, 0, Programs.OBJECT, 0);
+        machine.run(20000);
+        Check.due("what went holds nothing", machine.state(), 1);
+        dueCounts("what went holds nothing", machine, 30, 60, 3);
     }
 
     private static void swept512() {
