@@ -57,7 +57,7 @@ final class Programs {
         }
     }
 
-    /** The value that is looked at by look(where, k), in one number: its sort, and value(). */
+    /** Looks at a value: its sort and its value() must be these. */
     static void dueAt(String what, ValueMachine machine, int where, int k, int sort, int value) {
         Check.due(what + ": the sort", machine.look(where, k), sort);
         Check.due(what + ": the value", machine.value(), value);
