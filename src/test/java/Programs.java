@@ -1,41 +1,5 @@
-/** Names for the instructions, and machines that hold a program given as instruction, x, instruction, x, .. */
-final class Programs {
-    static final int NULL = 0;
-    static final int FALSE = 1;
-    static final int TRUE = 2;
-    static final int INTEGER = 3;
-    static final int STACK = 4;
-    static final int GLOBAL = 5;
-    static final int FIELD = 6;
-    static final int AT = 7;
-    static final int SIZE = 8;
-    static final int SET_STACK = 9;
-    static final int SET_GLOBAL = 10;
-    static final int SET_FIELD = 11;
-    static final int SET_AT = 12;
-    static final int PUSH = 13;
-    static final int POP = 14;
-    static final int GO = 15;
-    static final int IF = 16;
-    static final int UNLESS = 17;
-    static final int SAME = 18;
-    static final int LESS = 19;
-    static final int ADD = 20;
-    static final int SUB = 21;
-    static final int MUL = 22;
-    static final int DIV = 23;
-    static final int MOD = 24;
-    static final int NOT = 25;
-    static final int SORT = 26;
-    static final int OBJECT = 27;
-    static final int ARRAY = 28;
-    static final int FUNCTION = 29;
-    static final int CALL = 30;
-    static final int RETURN = 31;
-    static final int TRAP = 32;
-    static final int UNTRAP = 33;
-    static final int THROW = 34;
-
+/** Machines that hold a program given as instruction, x, instruction, x, .. */
+final class Programs implements Instructions {
     private Programs() {
     }
 
