@@ -136,7 +136,8 @@ public final class EdgesOfTermsTest extends Edges {
     // "two values are the SAME if they have one sort and are the same integer, the same thing, or functions .."
 
     private static void same() {
-        int[] things = of(OBJECT, 0, SET_GLOBAL, 0, OBJECT, 0, SET_GLOBAL, 1, ARRAY, 0, SET_GLOBAL, 2, ARRAY, 0, SET_GLOBAL, 3);
+        int[] things = of(
+            OBJECT, 0, SET_GLOBAL, 0, OBJECT, 0, SET_GLOBAL, 1, ARRAY, 0, SET_GLOBAL, 2, ARRAY, 0, SET_GLOBAL, 3);
         int[][] values = {
             of(NULL, 0), of(FALSE, 0), of(TRUE, 0), of(INTEGER, 0), of(INTEGER, 1), of(INTEGER, 2), of(INTEGER, 8),
             of(INTEGER, -1), of(INTEGER, MIN), of(INTEGER, MAX), of(GLOBAL, 0), of(GLOBAL, 1), of(GLOBAL, 2),
